@@ -231,6 +231,9 @@ public final class PromiseTest {
             due("tick of " + place, x.entry(place, 0), ticks[place]);
             due("draft of " + place, x.entry(place, 1), drafts[place]);
         }
+        due("fewer entries", readPlan(x, "4:4"), 1);
+        due("an entry of the old plan is gone", x.plan(9, 3), 2);
+        due("its place", x.entry(1, 0), 9);
         due("ten and two", readPlan(x, "0:1,1:1,2:1,3:1,4:1,5:1,6:1,7:1,8:1,9:1,10:1,11:1,11:2,0:8"), 12);
         due("the last one counts", x.count(2), 8);
         x.clearText();
@@ -326,6 +329,17 @@ public final class PromiseTest {
         due("its tries", x.burner(3, 8), 0);
         due("warms in that tick", x.burner(3, 5), 56);
         due("no gas by that", x.burner(3, 10), 0);
+        x.plan(1, 2);
+        x.turn(0, LOW);
+        x.press(0, true);
+        x.igniter(0, true);
+        x.turn(1, LOW);
+        x.press(1, true);
+        x.igniter(1, true);
+        x.turn(3, HIGH);
+        due("lit in a draft as great as the strength", x.pass(1), 2);
+        due("event", x.event(0, 0), 0);
+        due("burner", x.event(0, 1), 1);
     }
 
     private static void promise9Light() {
@@ -357,6 +371,10 @@ public final class PromiseTest {
         before = Seen.all(x);
         due("light with a flame", x.light(0), NOT_POSSIBLE);
         unchanged("a refused light", x, before);
+        x.turn(1, LOW);
+        x.press(1, true);
+        x.plan(5, 2);
+        due("light in a draft as great as the strength", x.light(1), 1);
 
         FlameGuards y = new FlameGuards();
         y.set(2, 0);
