@@ -1,11 +1,17 @@
-/** Counts the checks of one test class, prints those that fail, and tells the sum at the end. */
+/** Counts the checks of one test, prints those that fail, and tells the sum at the end. */
 final class Check {
     private final String name;
+    private final boolean prints;
     private int passed = 0;
     private int failed = 0;
 
     Check(String name) {
+        this(name, true);
+    }
+
+    Check(String name, boolean prints) {
         this.name = name;
+        this.prints = prints;
     }
 
     void due(String call, long got, long want) {
@@ -15,10 +21,16 @@ final class Check {
     void isTrue(String words, boolean is) {
         if (is) {
             passed++;
-        } else {
-            failed++;
+            return;
+        }
+        failed++;
+        if (prints) {
             System.out.println(name + ": " + words);
         }
+    }
+
+    int passes() {
+        return passed;
     }
 
     int failures() {

@@ -3,9 +3,11 @@ public final class ModelRunsTest {
     private static final Check CHECK = new Check("ModelRunsTest");
     private static final int RUNS = 1500;
     private static final int CALLS = 512;
+    private static final int MOST_CALLS_FOR_A_PLAN = 70;
     private static final String SIGNS = "0123456789::,,09";
 
     private long seed;
+    private int calls = 0;
     private final FlameGuards x = new FlameGuards();
     private final PlainModel model = new PlainModel();
 
@@ -14,13 +16,20 @@ public final class ModelRunsTest {
     }
 
     public static void main(String[] args) {
+        failures();
+        CHECK.end();
+    }
+
+    /** For CallLimitTest too, with another program. */
+    public static int failures() {
         for (int run = 0; run < RUNS && CHECK.failures() == 0; run++) {
             ModelRunsTest one = new ModelRunsTest(run);
-            for (int call = 0; call < CALLS && CHECK.failures() == 0; call++) {
-                one.call("run " + run + ", call " + call + ": ");
+            while (one.calls < CALLS && CHECK.failures() == 0) {
+                one.calls++;
+                one.call("run " + run + ", call " + one.calls + ": ");
             }
         }
-        CHECK.end();
+        return CHECK.failures();
     }
 
     private int below(int bound) {
@@ -61,7 +70,7 @@ public final class ModelRunsTest {
         if (sort == 0) {
             return number(9999);
         }
-        return x.count(0) + below(sort < 7 ? 12 : 600) - 4;
+        return model.count(0) + below(sort < 7 ? 12 : 600) - 4;
     }
 
     private void call(String where) {
@@ -84,7 +93,7 @@ public final class ModelRunsTest {
                 CHECK.due(where + "plan(" + tick + ", " + b + ")", x.plan(tick, b), model.plan(tick, b));
                 break;
             case 4:
-                if (below(2) == 0) {
+                if (below(2) == 0 && calls + MOST_CALLS_FOR_A_PLAN <= CALLS) {
                     typePlan(where);
                 }
                 CHECK.due(where + "readPlan()", x.readPlan(), model.readPlan());
@@ -134,6 +143,7 @@ public final class ModelRunsTest {
             int place = below(text.length() + 1);
             text = text.substring(0, place) + SIGNS.charAt(below(SIGNS.length())) + text.substring(place);
         }
+        calls += 1 + text.length();
         for (char sign : text.toCharArray()) {
             CHECK.due(where + "type(" + (int) sign + ")", x.type(sign), model.type(sign));
         }

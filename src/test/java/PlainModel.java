@@ -186,7 +186,7 @@ final class PlainModel {
     }
 
     /** A flame of -1 is none. */
-    private static int nextHeat(int kind, int heat, int flame) {
+    static int nextHeat(int kind, int heat, int flame) {
         if (flame < 0) {
             int colder = heat - heat / SLOWNESS[kind][1] - 1;
             return colder < 0 ? 0 : colder;

@@ -8,14 +8,20 @@ public final class PromiseTest {
     private static final int FULL = FlameGuards.FULL;
     private static final int NOT_POSSIBLE = FlameGuards.NOT_POSSIBLE;
     private static final int NONE = FlameGuards.NONE;
-    private static final int LOW = 1;
-    private static final int HIGH = 2;
+    private static final int LOW = Given.LOW;
+    private static final int HIGH = Given.HIGH;
     private static final int[] FAR = {Integer.MIN_VALUE, -1, Integer.MAX_VALUE};
 
     private PromiseTest() {
     }
 
     public static void main(String[] args) {
+        failures();
+        CHECK.end();
+    }
+
+    /** For CallLimitTest too, with another program. */
+    public static int failures() {
         promise1NewObject();
         promise2Set();
         promise3SetKind();
@@ -47,7 +53,7 @@ public final class PromiseTest {
         promise23Event();
         promise24Count();
         promise25Setting();
-        CHECK.end();
+        return CHECK.failures();
     }
 
     private static void due(String call, long got, long want) {
@@ -59,41 +65,10 @@ public final class PromiseTest {
         CHECK.isTrue(calls + " changed something", Seen.all(x).equals(before));
     }
 
-    private static void typeAll(FlameGuards x, String text) {
-        for (int i = 0; i < text.length(); i++) {
-            x.type(text.charAt(i));
-        }
-    }
-
-    private static int readPlan(FlameGuards x, String text) {
-        x.clearText();
-        typeAll(x, text);
-        return x.readPlan();
-    }
-
-    /** A burner that is turned, pressed and lit. */
-    private static void burn(FlameGuards x, int burner, int tap) {
-        x.turn(burner, tap);
-        x.press(burner, true);
-        x.light(burner);
-    }
-
     private static void passOneByOne(FlameGuards x, int ticks) {
         for (int i = 0; i < ticks; i++) {
             x.pass(1);
         }
-    }
-
-    /** A locked burner 3, its tap low and its knob pressed, in a draft of 9. */
-    private static FlameGuards withLock() {
-        FlameGuards x = new FlameGuards();
-        x.set(1, 1);
-        x.plan(0, 9);
-        x.turn(3, LOW);
-        x.igniter(3, true);
-        x.press(3, true);
-        x.pass(1);
-        return x;
     }
 
     private static void promise1NewObject() {
@@ -121,11 +96,11 @@ public final class PromiseTest {
     }
 
     private static void promise2Set() {
-        FlameGuards x = new FlameGuards();
         int[] least = {100, 1, 0, 50};
         int[] most = {450, 20, 50, 1000};
         int[] first = {300, 5, 5, 300};
         for (int which = 0; which < 4; which++) {
+            FlameGuards x = new FlameGuards();
             List<Integer> before = Seen.all(x);
             due("set to a value below", x.set(which, least[which] - 1), BAD_VALUE);
             due("set to a value above", x.set(which, most[which] + 1), BAD_VALUE);
@@ -138,6 +113,7 @@ public final class PromiseTest {
             due("set to the most", x.set(which, most[which]), least[which]);
             due("the most", x.setting(which), most[which]);
         }
+        FlameGuards x = new FlameGuards();
         List<Integer> before = Seen.all(x);
         due("set(4, 1)", x.set(4, 1), UNKNOWN);
         for (int which : FAR) {
@@ -166,7 +142,7 @@ public final class PromiseTest {
         due("setKind as it is, turned", x.setKind(1, 0), NOT_POSSIBLE);
         due("setKind as it is", x.setKind(2, 1), NONE);
         unchanged("a refused setKind", x, before);
-        burn(x, 1, LOW);
+        Given.burn(x, 1, LOW);
         x.pass(3);
         x.turn(1, 0);
         x.setKind(1, 2);
@@ -185,6 +161,11 @@ public final class PromiseTest {
             due("plan(1, " + far + ")", x.plan(1, far), BAD_VALUE);
         }
         unchanged("a refused plan", x, before);
+        promise4FullPlan();
+    }
+
+    private static void promise4FullPlan() {
+        FlameGuards x = new FlameGuards();
         due("plan(9999, 9)", x.plan(9999, 9), 1);
         due("plan(0, 0)", x.plan(0, 0), 2);
         due("plan(0, 0) again", x.plan(0, 0), NONE);
@@ -193,7 +174,7 @@ public final class PromiseTest {
         for (int tick = 10; tick > 0; tick--) {
             due("plan(" + tick + ", 1)", x.plan(tick, 1), 13 - tick);
         }
-        before = Seen.all(x);
+        List<Integer> before = Seen.all(x);
         due("a thirteenth", x.plan(11, 1), FULL);
         due("a thirteenth of a bad value", x.plan(11, 10), BAD_VALUE);
         due("the same of twelve", x.plan(10, 1), NONE);
@@ -203,41 +184,51 @@ public final class PromiseTest {
     }
 
     private static void promise5ReadPlan() {
-        FlameGuards x = new FlameGuards();
-        x.plan(77, 7);
         String[] texts = {"", ":", ",", "a", "0", "00:1", "01:1", "1", "1234", "12345:1", "1:", "1::", "1:a", "1:1:", "1:12",
             "1:1,", "1:1,,", "1:1,02:3", "0:0,9999:9,10000:1", "-1:2", "1 :2", "1:2 ", "1,2", "1;2", "\u0661:1", "1:\u0661",
             "/:1", "1:/", "5:1x", "1234:5,6", "100:/"};
         int[] faults = {0, 0, 0, 0, 1, 1, 1, 1, 4, 4, 2, 2, 2, 3, 3, 4, 4, 5, 15, 0, 1, 3, 1, 1, 0, 2, 0, 2, 3, 8, 4};
         due("faults", faults.length, texts.length);
         for (int i = 0; i < texts.length; i++) {
-            x.clearText();
-            typeAll(x, texts[i]);
+            FlameGuards x = new FlameGuards();
+            x.plan(77, 7);
+            Given.typeAll(x, texts[i]);
             List<Integer> before = Seen.all(x);
             due("readPlan of " + texts[i], x.readPlan(), -100 - faults[i]);
             unchanged("a refused readPlan", x, before);
         }
-        due("0:3,12:9,9999:0", readPlan(x, "0:3,12:9,9999:0"), 3);
+        promise5Entries();
+        promise5TooMany();
+    }
+
+    private static void promise5Entries() {
+        FlameGuards x = new FlameGuards();
+        x.plan(77, 7);
+        due("0:3,12:9,9999:0", Given.readPlan(x, "0:3,12:9,9999:0"), 3);
         due("the text stays", x.count(14), 15);
         due("the draft", x.count(2), 3);
         due("the old entry is gone", x.entry(3, 0), NONE);
         due("the last entry", x.entry(2, 0), 9999);
         due("again, as it is so already", x.readPlan(), 3);
         due("that is an act", x.count(13), 3);
-        due("unordered, twice", readPlan(x, "9:1,5:2,9:3,7:4,5:5"), 3);
+        due("unordered, twice", Given.readPlan(x, "9:1,5:2,9:3,7:4,5:5"), 3);
         int[] ticks = {5, 7, 9};
         int[] drafts = {5, 4, 3};
         for (int place = 0; place < 3; place++) {
             due("tick of " + place, x.entry(place, 0), ticks[place]);
             due("draft of " + place, x.entry(place, 1), drafts[place]);
         }
-        due("fewer entries", readPlan(x, "4:4"), 1);
+        due("fewer entries", Given.readPlan(x, "4:4"), 1);
         due("an entry of the old plan is gone", x.plan(9, 3), 2);
         due("its place", x.entry(1, 0), 9);
-        due("ten and two", readPlan(x, "0:1,1:1,2:1,3:1,4:1,5:1,6:1,7:1,8:1,9:1,10:1,11:1,11:2,0:8"), 12);
+        due("ten and two", Given.readPlan(x, "0:1,1:1,2:1,3:1,4:1,5:1,6:1,7:1,8:1,9:1,10:1,11:1,11:2,0:8"), 12);
         due("the last one counts", x.count(2), 8);
-        x.clearText();
-        typeAll(x, "0:0,1:0,2:0,3:0,4:0,5:0,6:0,7:0,8:0,9:0,10:0,11:0,12:0");
+    }
+
+    private static void promise5TooMany() {
+        FlameGuards x = new FlameGuards();
+        x.plan(77, 7);
+        Given.typeAll(x, "0:0,1:0,2:0,3:0,4:0,5:0,6:0,7:0,8:0,9:0,10:0,11:0,12:0");
         List<Integer> before = Seen.all(x);
         due("thirteen", x.readPlan(), FULL);
         unchanged("a readPlan that is full", x, before);
@@ -260,7 +251,7 @@ public final class PromiseTest {
             due("turn(2, " + far + ")", x.turn(2, far), BAD_VALUE);
         }
         unchanged("a refused turn", x, before);
-        burn(x, 2, LOW);
+        Given.burn(x, 2, LOW);
         x.turn(2, HIGH);
         due("the flame stays with another tap", x.burner(2, 4), 1);
         due("turned off", x.turn(2, 0), 2);
@@ -290,7 +281,7 @@ public final class PromiseTest {
         x.turn(1, HIGH);
         due("press", x.press(1, true), 1);
         due("let go of a cold one", x.press(1, false), 0);
-        burn(x, 1, HIGH);
+        Given.burn(x, 1, HIGH);
         x.pass(4);
         due("the joint", x.burner(1, 5), 291);
         due("let go too early", x.press(1, false), 0);
@@ -298,12 +289,12 @@ public final class PromiseTest {
         due("no event by that", x.pass(1), 0);
         due("the flame is out", x.burner(1, 4), 0);
         due("no gas by that", x.burner(1, 10), 0);
-        burn(x, 1, HIGH);
+        Given.burn(x, 1, HIGH);
         x.pass(1);
         x.pass(1);
         due("warm enough", x.burner(1, 5) >= 300 ? 1 : 0, 1);
         due("let go of a warm one", x.press(1, false), 1);
-        due("press of a locked one", withLock().press(3, false), 0);
+        due("press of a locked one", Given.withLock().press(3, false), 0);
     }
 
     private static void promise8Igniter() {
@@ -368,9 +359,9 @@ public final class PromiseTest {
         due("event", x.event(0, 0), 0);
         due("event's burner", x.event(0, 1), 0);
         due("event's tick", x.event(0, 2), 5);
-        before = Seen.all(x);
+        int acts = x.count(13);
         due("light with a flame", x.light(0), NOT_POSSIBLE);
-        unchanged("a refused light", x, before);
+        due("acts behind a refused light", x.count(13), acts);
         x.turn(1, LOW);
         x.press(1, true);
         x.plan(5, 2);
@@ -389,7 +380,7 @@ public final class PromiseTest {
     }
 
     private static void promise10Unlock() {
-        FlameGuards x = withLock();
+        FlameGuards x = Given.withLock();
         due("locked", x.burner(3, 7), 1);
         due("unlock(4)", x.unlock(4), UNKNOWN);
         for (int far : FAR) {
@@ -423,9 +414,12 @@ public final class PromiseTest {
             due("pass(" + far + ")", x.pass(far), BAD_VALUE);
         }
         unchanged("a refused pass", x, before);
-        due("pass(200)", x.pass(200), 0);
-        due("the tick", x.count(0), 200);
-        for (int i = 0; i < 498; i++) {
+        promise11LastTick();
+    }
+
+    private static void promise11LastTick() {
+        FlameGuards x = new FlameGuards();
+        for (int i = 0; i < 499; i++) {
             x.pass(200);
         }
         due("the tick", x.count(0), 99800);
@@ -449,7 +443,7 @@ public final class PromiseTest {
         for (int i = 0; i < 6; i++) {
             FlameGuards x = new FlameGuards();
             x.setKind(0, kinds[i / 2]);
-            burn(x, 0, i % 2 + 1);
+            Given.burn(x, 0, i % 2 + 1);
             for (int temperature : warming[i]) {
                 x.pass(1);
                 due("warming of " + i, x.burner(0, 5), temperature);
@@ -465,7 +459,7 @@ public final class PromiseTest {
             due("cold again", x.burner(0, 5), 0);
         }
         FlameGuards x = new FlameGuards();
-        burn(x, 0, HIGH);
+        Given.burn(x, 0, HIGH);
         x.pass(100);
         x.turn(0, LOW);
         int[] temperatures = {629, 566, 509, 500, 500};
@@ -481,7 +475,7 @@ public final class PromiseTest {
         for (int i = 0; i < 6; i++) {
             FlameGuards x = new FlameGuards();
             x.setKind(1, i / 2);
-            burn(x, 1, i % 2 + 1);
+            Given.burn(x, 1, i % 2 + 1);
             x.pass(20);
             x.plan(20, strengths[i]);
             due("a draft as great as the strength", x.pass(3), 0);
@@ -496,7 +490,7 @@ public final class PromiseTest {
             due("dark", x.burner(1, 9), 1);
         }
         FlameGuards x = new FlameGuards();
-        burn(x, 0, LOW);
+        Given.burn(x, 0, LOW);
         x.igniter(0, true);
         x.plan(2, 3);
         x.plan(3, 0);
@@ -510,7 +504,7 @@ public final class PromiseTest {
         due("most dark ticks", x.count(12), 1);
 
         FlameGuards y = new FlameGuards();
-        burn(y, 0, LOW);
+        Given.burn(y, 0, LOW);
         y.plan(1, 9);
         y.pass(1);
         y.press(0, false);
@@ -521,7 +515,7 @@ public final class PromiseTest {
     private static void promise11Locks() {
         FlameGuards x = new FlameGuards();
         x.set(1, 3);
-        burn(x, 0, LOW);
+        Given.burn(x, 0, LOW);
         x.igniter(0, true);
         x.plan(10, 3);
         x.pass(10);
@@ -548,7 +542,7 @@ public final class PromiseTest {
         due("more tries than the most: locked", y.pass(1), 1);
         due("tries", y.burner(2, 8), 5);
         FlameGuards z = new FlameGuards();
-        burn(z, 2, LOW);
+        Given.burn(z, 2, LOW);
         z.set(1, 1);
         z.igniter(2, true);
         z.plan(0, 4);
@@ -587,7 +581,7 @@ public final class PromiseTest {
         due("most gas stays", x.count(11), 23);
 
         FlameGuards y = new FlameGuards();
-        burn(y, 0, LOW);
+        Given.burn(y, 0, LOW);
         y.pass(9);
         y.plan(9, 3);
         y.press(0, false);
@@ -645,17 +639,17 @@ public final class PromiseTest {
         due("length", x.count(14), 60);
         due("no act", x.count(13), 0);
         FlameGuards y = new FlameGuards();
-        due("readPlan of what was typed", readPlan(y, "40:6"), 1);
+        due("readPlan of what was typed", Given.readPlan(y, "40:6"), 1);
         due("tick", y.entry(0, 0), 40);
         y.type('1');
         due("typed behind", y.readPlan(), -104);
-        due("a great character is no digit", readPlan(y, "4:" + (char) ('5' + 256)), -102);
+        due("a great character is no digit", Given.readPlan(y, "4:" + (char) ('5' + 256)), -102);
     }
 
     private static void promise13ClearText() {
         FlameGuards x = new FlameGuards();
         due("clearText of an empty text", x.clearText(), 0);
-        typeAll(x, "5:1");
+        Given.typeAll(x, "5:1");
         due("clearText", x.clearText(), 3);
         due("length", x.count(14), 0);
         due("readPlan then", x.readPlan(), -100);
@@ -681,7 +675,7 @@ public final class PromiseTest {
         }
         due("undo of no more", x.undo(), NONE);
         due("the tick", x.count(0), 3);
-        typeAll(x, "1:1");
+        Given.typeAll(x, "1:1");
         x.readPlan();
         x.clearText();
         x.undo();
@@ -693,21 +687,28 @@ public final class PromiseTest {
         due("the tap", x.burner(0, 1), 0);
     }
 
-    /** A run in which every act happens; after each one undo() must bring all back. */
+    /** A run in which every act happens; behind each one undo() must bring all back. */
     private static void promise14EveryAct() {
-        FlameGuards x = new FlameGuards();
-        typeAll(x, "0:0,30:9");
-        x.keep();
         for (int act = 0; act < 22; act++) {
+            FlameGuards x = behindActs(act);
             List<Integer> before = Seen.state(x);
             int answer = doAct(x, act);
             CHECK.isTrue("act " + act + " is refused: " + answer, answer >= 0);
-            List<Integer> behind = Seen.state(x);
             x.undo();
             CHECK.isTrue("undo of act " + act, Seen.state(x).equals(before));
             due("act " + act + " again", doAct(x, act), answer);
-            CHECK.isTrue("act " + act + " again, the state", Seen.state(x).equals(behind));
+            CHECK.isTrue("act " + act + " again, the state", Seen.state(x).equals(Seen.state(behindActs(act + 1))));
         }
+    }
+
+    private static FlameGuards behindActs(int number) {
+        FlameGuards x = new FlameGuards();
+        Given.typeAll(x, "0:0,30:9");
+        x.keep();
+        for (int act = 0; act < number; act++) {
+            doAct(x, act);
+        }
+        return x;
     }
 
     private static int doAct(FlameGuards x, int act) {
@@ -778,32 +779,52 @@ public final class PromiseTest {
         List<Integer> before = Seen.all(x);
         due("restore of nothing", x.restore(), NONE);
         unchanged("a restore of nothing", x, before);
+        promise16BringsBack();
+        promise16Stays();
+    }
+
+    /** A snapshot of tick 15. */
+    private static FlameGuards kept() {
+        FlameGuards x = new FlameGuards();
         x.set(2, 1);
         x.plan(9, 9);
-        burn(x, 3, HIGH);
+        Given.burn(x, 3, HIGH);
         x.igniter(1, true);
         x.pass(15);
         x.keep();
-        List<Integer> kept = Seen.state(x);
-        typeAll(x, "12");
+        return x;
+    }
+
+    private static FlameGuards keptAndChanged() {
+        FlameGuards x = kept();
+        Given.typeAll(x, "12");
         x.pass(40);
         x.turn(3, 0);
         x.setKind(3, 0);
         x.plan(3, 3);
         x.set(3, 60);
         x.igniter(1, false);
-        List<Integer> latest = Seen.state(x);
+        return x;
+    }
+
+    private static void promise16BringsBack() {
+        FlameGuards x = keptAndChanged();
         due("restore", x.restore(), 15);
-        CHECK.isTrue("the state of the snapshot", Seen.state(x).equals(kept));
+        CHECK.isTrue("the state of the snapshot", Seen.state(x).equals(Seen.state(kept())));
         due("the text stays", x.count(14), 2);
         due("the history stays", x.count(13), 4);
         due("undo of a restore", x.undo(), 3);
-        CHECK.isTrue("the state ahead of the restore", Seen.state(x).equals(latest));
+        CHECK.isTrue("the state ahead of the restore", Seen.state(x).equals(Seen.state(keptAndChanged())));
         due("the snapshot stays", x.restore(), 15);
-        CHECK.isTrue("the state of the snapshot again", Seen.state(x).equals(kept));
+        CHECK.isTrue("the state of the snapshot again", Seen.state(x).equals(Seen.state(kept())));
+    }
+
+    private static void promise16Stays() {
+        FlameGuards x = keptAndChanged();
+        x.restore();
         x.pass(3);
         due("what comes behind does not change the snapshot", x.restore(), 15);
-        CHECK.isTrue("the state of the snapshot once more", Seen.state(x).equals(kept));
+        CHECK.isTrue("the state of the snapshot once more", Seen.state(x).equals(Seen.state(kept())));
         due("restore of the same state is an act", x.restore(), 15);
         due("states", x.count(13), 4);
     }
@@ -816,7 +837,7 @@ public final class PromiseTest {
             due("burner(" + far + ", 0)", x.burner(far, 0), UNKNOWN);
             due("burner(0, " + far + ")", x.burner(0, far), BAD_VALUE);
         }
-        burn(x, 2, HIGH);
+        Given.burn(x, 2, HIGH);
         x.igniter(2, true);
         x.plan(3, 7);
         x.pass(5);
@@ -832,9 +853,9 @@ public final class PromiseTest {
             y.turn(0, i % 2 + 1);
             due("strength", y.burner(0, 11), strengths[i]);
         }
-        due("locked", withLock().burner(3, 7), 1);
+        due("locked", Given.withLock().burner(3, 7), 1);
         FlameGuards z = new FlameGuards();
-        burn(z, 0, LOW);
+        Given.burn(z, 0, LOW);
         z.pass(7);
         z.press(0, false);
         z.set(0, 306);
@@ -850,7 +871,7 @@ public final class PromiseTest {
             due("staysOpen(" + far + ")", x.staysOpen(far), UNKNOWN);
         }
         due("the tap off", x.staysOpen(0), NOT_POSSIBLE);
-        burn(x, 0, HIGH);
+        Given.burn(x, 0, HIGH);
         due("cold, though pressed", x.staysOpen(0), 0);
         x.pass(40);
         due("from 700", x.staysOpen(0), 8);
@@ -860,9 +881,9 @@ public final class PromiseTest {
         due("below 450", x.staysOpen(0), 5);
         x.turn(0, 0);
         due("turned off", x.staysOpen(0), NOT_POSSIBLE);
-        due("locked", withLock().staysOpen(3), NOT_POSSIBLE);
+        due("locked", Given.withLock().staysOpen(3), NOT_POSSIBLE);
         FlameGuards y = new FlameGuards();
-        burn(y, 3, HIGH);
+        Given.burn(y, 3, HIGH);
         y.pass(150);
         y.set(0, 100);
         List<Integer> before = Seen.all(y);
@@ -894,11 +915,11 @@ public final class PromiseTest {
         due("at the threshold", x.toPress(0, LOW), 7);
         x.set(0, 306);
         due("not yet at the threshold", x.toPress(0, LOW), 8);
-        burn(x, 0, HIGH);
+        Given.burn(x, 0, HIGH);
         x.pass(60);
         due("already", x.toPress(0, LOW), 0);
-        due("of a locked one", withLock().toPress(3, HIGH), 4);
-        due("whatever its tap", withLock().toPress(3, LOW), 8);
+        due("of a locked one", Given.withLock().toPress(3, HIGH), 4);
+        due("whatever its tap", Given.withLock().toPress(3, LOW), 8);
     }
 
     private static void promise20ClearIn() {
@@ -934,7 +955,7 @@ public final class PromiseTest {
         unchanged("clearIn", y, before);
 
         FlameGuards z = new FlameGuards();
-        burn(z, 0, HIGH);
+        Given.burn(z, 0, HIGH);
         z.pass(40);
         z.press(0, false);
         z.set(2, 0);
@@ -1015,7 +1036,7 @@ public final class PromiseTest {
             due("event(0, " + far + ")", x.event(0, far), BAD_VALUE);
         }
         for (int i = 0; i < 11; i++) {
-            burn(x, i % 3, LOW);
+            Given.burn(x, i % 3, LOW);
             x.turn(i % 3, 0);
             x.pass(1);
             due("known", x.event(Math.min(i, 9), 0), 0);
@@ -1039,14 +1060,14 @@ public final class PromiseTest {
         x.set(2, 1);
         x.plan(10, 4);
         x.plan(14, 0);
-        burn(x, 0, HIGH);
-        burn(x, 1, LOW);
-        burn(x, 2, LOW);
+        Given.burn(x, 0, HIGH);
+        Given.burn(x, 1, LOW);
+        Given.burn(x, 2, LOW);
         x.igniter(1, true);
         x.turn(3, LOW);
         x.pass(9);
         x.press(2, false);
-        typeAll(x, "1:2");
+        Given.typeAll(x, "1:2");
         x.pass(6);
         // Burner 1 is blown out and locked, 2 is blown out and drops, 0 burns on, 3 stays cold.
         int[] answers = {15, 0, 0, 2, 3, 2, 1, 1, 1, 1, 1, 6, 3, 4, 3};

@@ -6,7 +6,7 @@ final class Seen {
     private Seen() {
     }
 
-    /** All answers that tell of the state: not the text, nor the history, nor the snapshot. */
+    /** All answers that tell of the state: not the text, nor the history, nor the snapshot. 124 calls. */
     static List<Integer> state(FlameGuards x) {
         List<Integer> seen = new ArrayList<>();
         for (int burner = 0; burner < 4; burner++) {
@@ -37,6 +37,30 @@ final class Seen {
         List<Integer> seen = state(x);
         seen.add(x.count(13));
         seen.add(x.count(14));
+        return seen;
+    }
+
+    /** What the latest state of the history holds. */
+    static List<Integer> behindUndo(FlameGuards x) {
+        int answer = x.undo();
+        List<Integer> seen = all(x);
+        seen.add(answer);
+        return seen;
+    }
+
+    /** What the snapshot holds. */
+    static List<Integer> behindRestore(FlameGuards x) {
+        int answer = x.restore();
+        List<Integer> seen = all(x);
+        seen.add(answer);
+        return seen;
+    }
+
+    /** What the text holds. */
+    static List<Integer> behindReadPlan(FlameGuards x) {
+        int answer = x.readPlan();
+        List<Integer> seen = all(x);
+        seen.add(answer);
         return seen;
     }
 }
