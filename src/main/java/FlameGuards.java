@@ -457,7 +457,9 @@ public final class FlameGuards {
 
         Settings() {
             values = new int[FIRST.length];
-            copyRow(FIRST, values);
+            for (int i = 0; i < FIRST.length; i++) {
+                values[i] = FIRST[i];
+            }
         }
 
         static boolean isOne(int which) {

@@ -1,9 +1,12 @@
 import java.io.IOException;
+import java.lang.reflect.Field;
+import java.lang.reflect.Modifier;
 import java.nio.file.Files;
 import java.nio.file.Path;
 import java.util.ArrayList;
 import java.util.List;
 import java.util.Set;
+import java.util.TreeSet;
 import java.util.regex.Matcher;
 import java.util.regex.Pattern;
 
@@ -13,7 +16,11 @@ public final class LanguageTest {
     private static final Set<String> FACE = Set.of("set", "setKind", "plan", "readPlan", "turn", "press", "igniter",
             "light", "unlock", "pass", "type", "clearText", "undo", "keep", "restore", "burner", "staysOpen", "toPress",
             "clearIn", "blownIn", "entry", "event", "count", "setting");
+    private static final Set<String> LIBRARY = Set.of("Math.min", "Math.max", "System.arraycopy");
+    private static final Set<Class<?>> PLAIN = Set.of(int.class, boolean.class, int[].class, char[].class);
     private static final int LONGEST_METHOD = 60;
+    private static final int MOST_CLASSES = 12;
+    private static final int MOST_FIELDS = 20;
 
     private LanguageTest() {
     }
@@ -28,6 +35,9 @@ public final class LanguageTest {
                 !Pattern.compile("static (?!final)[^(\n]*[;=]").matcher(code).find());
         CHECK.isTrue("a static initialiser", !Pattern.compile("static\\s*\\{").matcher(code).find());
         ownMethods(code);
+        constructors(code);
+        library(code);
+        classes();
         CHECK.end();
     }
 
@@ -62,5 +72,59 @@ public final class LanguageTest {
             names.add(name);
         }
         CHECK.isTrue("methods found: " + names, names.size() > 40 && names.containsAll(FACE));
+    }
+
+    /** A constructor makes objects and rows; it calls nothing that could get hold of the unfinished object. */
+    private static void constructors(String code) {
+        Matcher header = Pattern.compile("(?m)^( +)(?:public )?([A-Z]\\w*)\\([^)]*\\) \\{$").matcher(code);
+        int found = 0;
+        while (header.find()) {
+            int end = code.indexOf("\n" + header.group(1) + "}", header.end());
+            String body = code.substring(header.end(), end).replaceAll("\\b(new \\w+|for|if) ?\\(", "");
+            CHECK.isTrue("a call in the constructor of " + header.group(2), !Pattern.compile("\\w\\(").matcher(body).find());
+            found++;
+        }
+        CHECK.due("constructors", found, classesOfTheProgram().size());
+    }
+
+    private static void library(String code) {
+        Set<String> own = new TreeSet<>();
+        for (Class<?> each : classesOfTheProgram()) {
+            own.add(each.getSimpleName());
+        }
+        Matcher call = Pattern.compile("\\b([A-Z]\\w*[a-z]\\w*)\\.\\w+(?=\\()").matcher(code);
+        while (call.find()) {
+            CHECK.isTrue("a call of " + call.group(), own.contains(call.group(1)) || LIBRARY.contains(call.group()));
+        }
+    }
+
+    private static void classes() {
+        List<Class<?>> all = classesOfTheProgram();
+        CHECK.isTrue(all.size() + " classes", all.size() <= MOST_CLASSES);
+        for (Class<?> each : all) {
+            CHECK.isTrue(each + " is not static", each == FlameGuards.class || Modifier.isStatic(each.getModifiers()));
+            CHECK.isTrue(each + " is open", each == FlameGuards.class
+                    || !Modifier.isPublic(each.getModifiers()) && !Modifier.isProtected(each.getModifiers()));
+            fields(each, all);
+        }
+    }
+
+    private static void fields(Class<?> owner, List<Class<?>> own) {
+        int inObjects = 0;
+        for (Field field : owner.getDeclaredFields()) {
+            boolean isStatic = Modifier.isStatic(field.getModifiers());
+            Class<?> type = field.getType();
+            boolean isOwn = own.contains(type) || type.isArray() && own.contains(type.getComponentType());
+            CHECK.isTrue("the type of " + field, PLAIN.contains(type) || !isStatic && isOwn);
+            CHECK.isTrue(field + " is static and not final", !isStatic || Modifier.isFinal(field.getModifiers()));
+            inObjects += isStatic ? 0 : 1;
+        }
+        CHECK.isTrue(owner + " has " + inObjects + " fields", inObjects <= MOST_FIELDS);
+    }
+
+    private static List<Class<?>> classesOfTheProgram() {
+        List<Class<?>> all = new ArrayList<>(List.of(FlameGuards.class.getDeclaredClasses()));
+        all.add(FlameGuards.class);
+        return all;
     }
 }
